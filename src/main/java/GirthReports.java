@@ -3,8 +3,9 @@ import java.util.Arrays;
 /**
  * The girth of a ball, by what walkers report of its roads and by the shadows of its towns.
  *
- * Every row is made in a constructor and used again, so that a call makes no object; and every
- * index and divisor goes through {@link #at}, {@link #put} or {@link #cut}, which test it.
+ * Every row is made in a constructor and used again, so that a call makes no object. Rows are read
+ * and written through {@link #at} and {@link #put} alone, which test the index; a divisor that is
+ * no constant is tested where it divides.
  */
 public final class GirthReports {
     public static final int BAD = -1, NO = -2, FULL = -3, NONE = -4;

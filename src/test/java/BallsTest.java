@@ -73,6 +73,8 @@ public final class BallsTest {
         D.due("wiped", 0, x.count(8));
         D.due("wiped: write", 1, x.write('g'));
         D.due("wiped: the old letters are gone", 0, x.fault());
+        D.due("wiped: write again", 2, x.write('1'));
+        D.due("wiped: the old ; is gone", 0, x.fault());
         x.wipe();
         for (int i = 0; i < 200; i++) {
             x.write('a');

@@ -16,6 +16,7 @@ public final class GirthTest {
         cancelOfACopier();
         cancelWithoutDegrees();
         sail();
+        sailToTheMile();
         D.end();
     }
 
@@ -63,6 +64,9 @@ public final class GirthTest {
         x.walk(0, 0, 2);
         D.due("all(0) of those that have a most", 3598, x.all(0));
         D.due("all(1) of those that have a most", 4398, x.all(1));
+        x.walk(0, 0, 1);
+        D.due("all(0), one without a most behind it", 3598, x.all(0));
+        D.due("all(1), one without a most behind it", 4398, x.all(1));
     }
 
     private static void allWithoutClash() {
@@ -267,5 +271,24 @@ public final class GirthTest {
         x.walk(0, 0, 1);
         x.walk(1, 0, 1);
         D.due("sail, a far too great girth", 0, x.sail(360, 99));
+    }
+
+    private static void sailToTheMile() {
+        // 360 MILES round: a degree is a MILE
+        GirthReports x = Due.laid("g9;t0,4;t50,4;r0,1,0;w0,1,1;w2,1,1;");
+        x.walk(0, 0, 1);
+        D.due("sail: MEAN", 360, x.mean());
+        D.due("sail(100, 1)", 2, x.sail(100, 1));
+        D.due("sail(101, 1)", 0, x.sail(101, 1));
+        D.due("sail(300, 3)", 2, x.sail(300, 3));
+        D.due("sail(301, 3)", 0, x.sail(301, 3));
+        x.strike(0);
+        x.walk(1, 0, 1);
+        D.due("sail: a SHORT MEAN", 324, x.mean());
+        D.due("sail(100, 1), SHORT", 2, x.sail(100, 1));
+        D.due("sail(101, 1), SHORT", 1, x.sail(101, 1));
+        // 111 degrees of 324 are 99.9, 112 are 100.8, 113 are 101.7
+        D.due("sail(112, 1), SHORT", 1, x.sail(112, 1));
+        D.due("sail(113, 1), SHORT", 0, x.sail(113, 1));
     }
 }

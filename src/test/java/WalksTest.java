@@ -12,6 +12,8 @@ public final class WalksTest {
         strike();
         undo();
         undoTheLastEight();
+        undoTheLastEightOfAllKinds();
+        undoAStrikingThatIsTheEighth();
         D.end();
     }
 
@@ -176,5 +178,64 @@ public final class WalksTest {
         D.due("undo() of more than eight", NO, x.undo());
         D.due("the oldest two stay", 2, x.count(3));
         D.due("their days stay", 4, x.count(4));
+    }
+
+    private static void undoTheLastEightOfAllKinds() {
+        GirthReports x = new GirthReports();
+        x.walk(0, 0, 3);
+        x.strike(0);
+        x.walk(1, 3, 0);
+        x.walk(2, 0, 3);
+        x.strike(1);
+        x.strike(0);
+        x.walk(0, 1, 0);
+        x.walk(2, 3, 0);
+        x.strike(0);
+        x.walk(1, 0, 3);
+        x.strike(1);
+        // of eleven, the first three stay
+        int[] reports = {2, 1, 2, 1, 0, 1, 2, 1};
+        // the walks took 8, 7, 11, 2, 11 and 7 days
+        int[] days = {46, 39, 39, 28, 26, 26, 26, 15};
+        for (int i = 0; i < 8; i++) {
+            D.due("undo() of all kinds", 7 - i, x.undo());
+            D.due("undo() of all kinds: reports", reports[i], x.count(3));
+            D.due("undo() of all kinds: days", days[i], x.count(4));
+            if (i == 0) {
+                same(x, 1, 1, 0, 3, 200);
+            } else if (i == 2) {
+                same(x, 0, 0, 1, 0, 32);
+            } else if (i == 5) {
+                same(x, 0, 1, 3, 0, 200);
+            } else if (i == 6) {
+                same(x, 1, 2, 0, 3, 157);
+            }
+        }
+        D.due("undo() of all kinds, no more", NO, x.undo());
+        same(x, 0, 1, 3, 0, 200);
+    }
+
+    private static void undoAStrikingThatIsTheEighth() {
+        GirthReports x = new GirthReports();
+        x.walk(1, 3, 2);
+        x.walk(2, 0, 3);
+        x.strike(0);
+        for (int i = 0; i < 7; i++) {
+            x.walk(0, 0, 1);
+        }
+        for (int left = 7; left >= 0; left--) {
+            D.due("undo() as far as a striking", left, x.undo());
+        }
+        D.due("undo() beyond the striking", NO, x.undo());
+        same(x, 0, 1, 3, 2, 140);
+        same(x, 1, 2, 0, 3, 157);
+        D.due("two reports", 2, x.count(3));
+    }
+
+    private static void same(GirthReports x, int r, int w, int a, int b, int n) {
+        D.due("report(" + r + ", 0)", w, x.report(r, 0));
+        D.due("report(" + r + ", 1)", a, x.report(r, 1));
+        D.due("report(" + r + ", 2)", b, x.report(r, 2));
+        D.due("report(" + r + ", 3)", n, x.report(r, 3));
     }
 }
