@@ -23,6 +23,7 @@ public final class WalkEdgesTest {
         walksUndone();
         strikingsUndone();
         refusedIsNotUndone();
+        theLastCall();
         D.end();
     }
 
@@ -370,5 +371,16 @@ public final class WalkEdgesTest {
         D.due("can be undone", 4, x.count(6));
         D.due("undo() behind what was refused", 3, x.undo());
         left(x, "undone behind what was refused", 0, 1, 2);
+    }
+
+    private static void theLastCall() {
+        D.sentence("An object is used for at most 512 calls after it has been made");
+        GirthReports x = new GirthReports();
+        for (int i = 0; i < 255; i++) {
+            x.walk(2, 0, 3);
+            x.strike(0);
+        }
+        D.due("the 511th call: days of 255 walks", 255 * 11, x.count(4));
+        D.due("the 512th call: undo()", 7, x.undo());
     }
 }
